@@ -57,13 +57,13 @@ public final class ZSaves {
     private static final long PRINT_START = -3750763034362895579L;
     private static final long PRINT_FACTOR = 1099511628211L;
 
+    private final Reader reader;
+    private final Writer writer;
     private final Bytes tape;
     private final Bytes output;
     private final Bytes disk;
     private final Bytes work;
     private final Story tale;
-    private final Writer writer;
-    private final Reader reader;
     private final Kept kept;
     private Session now;
     private Session spare;
@@ -75,13 +75,13 @@ public final class ZSaves {
     private int faultPlace;
 
     public ZSaves() {
-        tape = new Bytes(TAPE_ROOM);
-        output = new Bytes(OUT_ROOM);
+        reader = new Reader();
+        writer = new Writer();
+        tape = reader.file;
+        output = writer.file;
         disk = new Bytes(OUT_ROOM);
         work = new Bytes(MOST_WEIGHT);
         tale = new Story();
-        writer = new Writer(output);
-        reader = new Reader(tape, tale);
         kept = new Kept();
         now = new Session();
         spare = new Session();
@@ -304,7 +304,7 @@ public final class ZSaves {
             tape.clear();
             return STATE;
         }
-        int fault = reader.readInto(spare, coming);
+        int fault = reader.readFor(tale, spare, coming);
         tape.clear();
         faultCode = fault >>> PLACE_BITS;
         faultPlace = fault == NO_FAULT ? NONE : fault & PLACE_MASK;
@@ -844,17 +844,13 @@ public final class ZSaves {
         }
     }
 
-    /** Writes a FILE, and knows its CHUNKS until the next one. */
+    /** Writes a FILE, which is THE OUT, and knows its CHUNKS until the next one. */
     private static final class Writer {
-        private final Bytes file;
+        private final Bytes file = new Bytes(OUT_ROOM);
         private final int[] names = new int[OWN_CHUNKS + MOST_STRANGERS];
         private final int[] begins = new int[OWN_CHUNKS + MOST_STRANGERS];
         private final int[] sizes = new int[OWN_CHUNKS + MOST_STRANGERS];
         private int count = 0;
-
-        Writer(Bytes file) {
-            this.file = file;
-        }
 
         void startFile() {
             count = 0;
@@ -912,21 +908,15 @@ public final class ZSaves {
         }
     }
 
-    /** Reads a FILE into what its caller can still throw away. */
+    /** Reads a FILE, which is THE TAPE, into what its caller can still throw away. */
     private static final class Reader {
-        private final Bytes file;
-        private final Story story;
+        private final Bytes file = new Bytes(TAPE_ROOM);
         private boolean headRead = false;
         private boolean memoryRead = false;
         private boolean framesRead = false;
         private int at = 0;
 
-        Reader(Bytes file, Story story) {
-            this.file = file;
-            this.story = story;
-        }
-
-        int readInto(Session to, Strangers others) {
+        int readFor(Story story, Session to, Strangers others) {
             to.begin(story);
             others.clear();
             headRead = false;
@@ -938,7 +928,7 @@ public final class ZSaves {
                 fault = shapeFault();
                 if (fault == NO_FAULT) {
                     int n = file.number(at + 4, 4);
-                    fault = readContents(n, to, others);
+                    fault = readContents(n, story, to, others);
                     at += LABEL_SIZE + n + (n & 1);
                 }
             }
@@ -976,12 +966,12 @@ public final class ZSaves {
             return file.at(pad) != 0 ? fault(WRONG_PAD, pad) : NO_FAULT;
         }
 
-        private int readContents(int n, Session to, Strangers others) {
+        private int readContents(int n, Story story, Session to, Strangers others) {
             int name = file.number(at, 4);
             int start = at + LABEL_SIZE;
             switch (name) {
                 case HEAD_NAME:
-                    return headRead ? NO_FAULT : readHead(n, to);
+                    return headRead ? NO_FAULT : readHead(n, story, to);
                 case RUNS_NAME:
                 case PLAIN_NAME:
                     return memoryRead ? NO_FAULT : readMemory(name, n, to);
@@ -996,7 +986,7 @@ public final class ZSaves {
             }
         }
 
-        private int readHead(int n, Session to) {
+        private int readHead(int n, Story story, Session to) {
             if (n != HEAD_CHUNK_SIZE) {
                 return fault(WRONG_HEAD, at + 4);
             }

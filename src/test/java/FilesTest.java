@@ -17,6 +17,8 @@ public final class FilesTest {
         bits();
         strangers();
         strangersAtTheirMost();
+        strangersManyTimes();
+        thrownAway();
         seconds();
         order();
         chunk();
@@ -254,6 +256,28 @@ public final class FilesTest {
             Rows.file(Rows.headChunk(0), Rows.chunk(Rows.C, 1), Rows.framesChunk(), all));
         CHECK.due("20: the eleventh", x.chunk(10, 2), 200);
         CHECK.due("20: no twelfth", x.chunk(11, 2), ZSaves.NONE);
+    }
+
+    private static void strangersManyTimes() {
+        ZSaves x = Rows.withStory(1);
+        for (int i = 1; i <= 12; i++) {
+            int[] large = Rows.chunk(NAME, Rows.filled(200 - i, i));
+            restored(x, Rows.headChunk(0), large, Rows.chunk(Rows.B), Rows.framesChunk(), large);
+            x.save(true);
+            same("17: strangers of file " + i, Rows.outOf(x),
+                Rows.file(Rows.headChunk(0), Rows.chunk(Rows.C, 1), Rows.framesChunk(), large, large));
+        }
+    }
+
+    /** A result of 0 and one that is thrown away differ in the fourth byte alone. */
+    private static void thrownAway() {
+        ZSaves x = Rows.withStory(1);
+        for (int shape : new int[] {0, 15, 16, 31}) {
+            int[] frames = Rows.join(Rows.zeros(8), Rows.row(0, 0, 1, shape, 0, 0, 0, 0), Rows.zeros(2 * (shape & 15)));
+            restored(x, Rows.headChunk(0), Rows.chunk(Rows.B), Rows.chunk(Rows.D, frames));
+            CHECK.due("18: result of " + shape, x.frame(1, 1), shape >= 16 ? ZSaves.NONE : 0);
+            CHECK.due("18: locals of " + shape, x.frame(1, 3), shape & 15);
+        }
     }
 
     /** Nothing is looked at in a second one, and it is no STRANGER. */

@@ -8,6 +8,7 @@ public final class KeptTest {
         bits();
         weight();
         atMostEight();
+        eightOfManyWeights();
         eldestGo();
         full();
         bound();
@@ -114,6 +115,30 @@ public final class KeptTest {
             CHECK.due("25: peek", x.peek(0), i);
         }
         CHECK.due("25: the eldest are gone", x.undo(), ZSaves.NONE);
+    }
+
+    private static void eightOfManyWeights() {
+        ZSaves x = Rows.withStory(Rows.zeros(100));
+        long[] prints = new long[10];
+        for (int i = 0; i < 10; i++) {
+            x.poke(99 - 3 * i, 1 + i);
+            x.push(i);
+            x.jump(i);
+            prints[i] = x.print();
+            CHECK.due("24: keep", x.keep(), Math.min(i + 1, 8));
+        }
+        for (int i = 9; i >= 2; i--) {
+            x.restart();
+            CHECK.due("25: undo", x.undo(), i - 2);
+            CHECK.due("25: as it was", x.print(), prints[i]);
+            CHECK.due("25: pc", x.told(1), i);
+        }
+        CHECK.due("28: nothing weighs", x.told(4), 0);
+        for (int i = 0; i < 8; i++) {
+            x.keep();
+        }
+        x.bound(0);
+        CHECK.due("26: all eight go", x.told(3), 0);
     }
 
     private static void eldestGo() {
