@@ -72,8 +72,19 @@ final class Rows {
         return Arrays.copyOf(row, n);
     }
 
-    /** The tape must be empty ahead of this. */
-    static void onTape(ZSaves x, int... bytes) {
+    /** A FILE of just 2,000 bytes for a STORY of one byte: THE TAPE takes it, with a WORD more no longer. */
+    static int[] fileOf2000() {
+        int[] frames = join(
+            row(0, 0, 0, 0, 0, 0, 0, 40), filled(80, 3),
+            row(0, 0, 7, 15, 9, 1, 0, 40), filled(110, 4),
+            row(0, 0, 8, 0, 9, 1, 0, 36), filled(72, 5));
+        int[] stranger = chunk(row(1, 2, 3, 4), filled(200, 6));
+        int[] strangers = join(stranger, stranger, stranger, stranger, stranger, stranger, stranger, stranger);
+        return file(headChunk(7), chunk(B), chunk(D, frames), strangers);
+    }
+
+    static void onTape(Counted x, int... bytes) {
+        x.end(0);
         for (int at = 0; at < bytes.length; at += 20) {
             int[] part = Arrays.copyOfRange(bytes, at, at + 20);
             x.feed(at(part, 0), at(part, 4), at(part, 8), at(part, 12), at(part, 16));
@@ -85,18 +96,37 @@ final class Rows {
         return row[i] << 24 | row[i + 1] << 16 | row[i + 2] << 8 | row[i + 3];
     }
 
-    static ZSaves withStory(int... bytes) {
-        ZSaves x = new ZSaves();
+    static int story(Counted x, int... bytes) {
         onTape(x, join(HEAD, bytes));
-        x.story();
-        return x;
+        return x.story();
     }
 
-    static int[] outOf(ZSaves x) {
-        int[] all = new int[x.told(8)];
+    static int restored(Counted x, int[]... chunks) {
+        onTape(x, file(chunks));
+        return x.restore();
+    }
+
+    /** The bytes of THE TAPE, 11 to 1,010 of them, which become a STORY. */
+    static long[] tapeOf(Counted x) {
+        long[] all = new long[x.told(7)];
+        x.story();
+        x.save(true);
         for (int i = 0; i < all.length; i++) {
-            all[i] = x.out(i);
+            all[i] = i < 10 ? x.out(20 + i) : x.peek(i - 10);
         }
         return all;
+    }
+
+    /** THE OUT's bytes from one on, so many at most. */
+    static long[] outOf(Counted x, int from, int most) {
+        long[] all = new long[Math.max(0, Math.min(x.told(8) - from, most))];
+        for (int i = 0; i < all.length; i++) {
+            all[i] = x.out(from + i);
+        }
+        return all;
+    }
+
+    static long[] longs(int... row) {
+        return Arrays.stream(row).asLongStream().toArray();
     }
 }

@@ -1,192 +1,266 @@
-/** Promises 1 to 6: a new object, THE TAPE, THE OUT, and a STORY. */
+/** Promises 1 to 6: a new object, THE TAPE, THE OUT, a STORY. */
 public final class TapeTest {
-    private static final Check CHECK = new Check();
+    private static final int BAD = ZSaves.BAD, NONE = ZSaves.NONE, FULL = ZSaves.FULL, STATE = ZSaves.STATE;
+    private static final int LOWEST = Integer.MIN_VALUE, HIGHEST = Integer.MAX_VALUE;
+    private static final Cases CASES = new Cases();
 
     public static void main(String[] args) {
         newObject();
         withoutStory();
+        stateAheadOfAll();
         feed();
+        feedAtItsEdges();
         end();
-        outAndBack();
-        backOfTooMuch();
+        endRefused();
+        out();
+        back();
         story();
-        storyOfEdges();
+        storyAtItsEdges();
         storyAgain();
-        CHECK.finish();
+        lastCall();
+        CASES.finish();
     }
 
     private static void newObject() {
-        ZSaves x = new ZSaves();
-        int[] due = {0, 0, 0, 0, 0, 0, 0, 0, 0, ZSaves.NONE};
-        for (int what = 0; what < due.length; what++) {
-            CHECK.due("1: told(" + what + ")", x.told(what), due[what]);
-        }
-        CHECK.due("1: told(-1)", x.told(-1), ZSaves.BAD);
-        CHECK.due("1: told(10)", x.told(10), ZSaves.BAD);
-        CHECK.due("1: out(0)", x.out(0), ZSaves.BAD);
-        CHECK.due("1: load()", x.load(), ZSaves.NONE);
-        CHECK.due("1: why(0)", x.why(0), 0);
-        CHECK.due("1: why(1)", x.why(1), ZSaves.NONE);
-        CHECK.due("1: chunk(0, 0)", x.chunk(0, 0), ZSaves.NONE);
-        CHECK.due("1: back()", x.back(), 0);
-        CHECK.due("1: bound(5)", x.bound(5), 1000);
+        CASES.answers("1 no STORY", Cases.NEW, x -> new long[] {x.told(0), x.told(2), x.print()}, 0, 0, 0);
+        CASES.answers("1 nothing on the disk", Cases.NEW, x -> new long[] {x.told(9), x.load()}, NONE, NONE);
+        CASES.answers("1 nothing is KEPT", Cases.NEW, x -> new long[] {x.told(3), x.told(4)}, 0, 0);
+        CASES.answers("1 no STRANGERS", Cases.NEW, x -> new long[] {x.told(6)}, 0);
+        CASES.answers("1 an empty TAPE", Cases.NEW, x -> new long[] {x.told(7)}, 0);
+        CASES.answers("1 an empty OUT", Cases.NEW, x -> new long[] {x.told(8)}, 0);
+        CASES.answers("28 no PC and no weight without a STORY", Cases.NEW, x -> new long[] {x.told(1), x.told(5)}, 0, 0);
+        CASES.answers("19 no fault ahead of the first restore()", Cases.NEW, x -> new long[] {x.why(0), x.why(1)}, 0, NONE);
     }
 
-    /** STATE comes ahead of whatever else is wrong. */
-    private static void withoutStory() {
-        ZSaves x = new ZSaves();
-        CHECK.due("1: poke", x.poke(-1, 999), ZSaves.STATE);
-        CHECK.due("1: peek", x.peek(-1), ZSaves.STATE);
-        CHECK.due("1: jump", x.jump(-1), ZSaves.STATE);
-        CHECK.due("1: call", x.call(-1, -1, -1, -1), ZSaves.STATE);
-        CHECK.due("1: leave", x.leave(), ZSaves.STATE);
-        CHECK.due("1: local", x.local(-1, -1), ZSaves.STATE);
-        CHECK.due("1: push", x.push(-1), ZSaves.STATE);
-        CHECK.due("1: pop", x.pop(), ZSaves.STATE);
-        CHECK.due("1: frame", x.frame(-1, -1), ZSaves.STATE);
-        CHECK.due("1: print", x.print(), 0);
-        CHECK.due("1: save", x.save(false), ZSaves.STATE);
-        CHECK.due("1: keep", x.keep(), ZSaves.STATE);
-        CHECK.due("1: undo", x.undo(), ZSaves.STATE);
-        CHECK.due("1: restart", x.restart(), ZSaves.STATE);
+    /** On the disk, for the next write(), for THE BOUND and on THE TAPE there is something to lose. */
+    private static void blank(Counted x) {
+        x.write();
+        x.cut(0);
+        x.bound(900);
         x.feed(1, 2, 3, 4, 5);
-        CHECK.due("18: restore", x.restore(), ZSaves.STATE);
-        CHECK.due("18: the tape behind it", x.told(7), 0);
-        CHECK.due("19: a refused restore is not the latest", x.why(1), ZSaves.NONE);
+    }
+
+    private static void withoutStory() {
+        CASES.refused("7 STATE: poke", TapeTest::blank, x -> x.poke(0, 0), STATE);
+        CASES.refused("8 STATE: peek", TapeTest::blank, x -> x.peek(0), STATE);
+        CASES.refused("9 STATE: jump", TapeTest::blank, x -> x.jump(7), STATE);
+        CASES.refused("10 STATE: call", TapeTest::blank, x -> x.call(7, 7, 7, 7), STATE);
+        CASES.refused("11 STATE: leave", TapeTest::blank, Counted::leave, STATE);
+        CASES.refused("12 STATE: local", TapeTest::blank, x -> x.local(0, 0), STATE);
+        CASES.refused("13 STATE: push", TapeTest::blank, x -> x.push(7), STATE);
+        CASES.refused("14 STATE: pop", TapeTest::blank, Counted::pop, STATE);
+        CASES.refused("15 STATE: frame", TapeTest::blank, x -> x.frame(0, 0), STATE);
+        CASES.refused("16 print is 0", TapeTest::blank, Counted::print, 0);
+        CASES.refused("17 STATE: save with B", TapeTest::blank, x -> x.save(false), STATE);
+        CASES.refused("17 STATE: save with C", TapeTest::blank, x -> x.save(true), STATE);
+        CASES.refusedReading("18 STATE: restore", TapeTest::blank, Counted::restore, STATE);
+        CASES.refusedReading("18 STATE: restore of a FILE", x -> {
+            blank(x);
+            Rows.onTape(x, Rows.file(Rows.headChunk(5), Rows.chunk(Rows.B), Rows.framesChunk()));
+        }, Counted::restore, STATE);
+        CASES.refusedReading("18 STATE: restore of an empty TAPE", x -> x.bound(900), Counted::restore, STATE);
+        CASES.refused("24 STATE: keep", TapeTest::blank, Counted::keep, STATE);
+        CASES.refused("25 STATE: undo", TapeTest::blank, Counted::undo, STATE);
+        CASES.refused("27 STATE: restart", TapeTest::blank, Counted::restart, STATE);
+        CASES.refused("20 NONE: chunk, behind a save() that was refused", x -> x.save(false), x -> x.chunk(0, 0), NONE);
+    }
+
+    private static void stateAheadOfAll() {
+        CASES.refused("7 STATE ahead of BAD", TapeTest::blank, x -> x.poke(-1, 256), STATE);
+        CASES.refused("8 STATE ahead of BAD", TapeTest::blank, x -> x.peek(-1), STATE);
+        CASES.refused("9 STATE ahead of BAD", TapeTest::blank, x -> x.jump(-1), STATE);
+        CASES.refused("10 STATE ahead of BAD", TapeTest::blank, x -> x.call(-1, -1, -1, -1), STATE);
+        CASES.refused("12 STATE ahead of BAD", TapeTest::blank, x -> x.local(-1, -1), STATE);
+        CASES.refused("13 STATE ahead of BAD", TapeTest::blank, x -> x.push(-1), STATE);
+        CASES.refused("15 STATE ahead of NONE", TapeTest::blank, x -> x.frame(-1, 0), STATE);
+        CASES.refused("15 STATE ahead of BAD", TapeTest::blank, x -> x.frame(0, -1), STATE);
+        CASES.refused("24 STATE ahead of FULL", x -> x.bound(0), Counted::keep, STATE);
+    }
+
+    private static void fed(Counted x) {
+        x.feed(0x01020304, 0x05060708, 0x090A0B0C, 0x0D0E0F10, 0x11121314);
     }
 
     private static void feed() {
-        ZSaves x = new ZSaves();
-        CHECK.due("2: feed", x.feed(0x01020304, 0xFFFEFDFC, 0, 7, 0x80000000), 20);
-        CHECK.due("2: a second", x.feed(1, 2, 3, 4, 5), 40);
-        x.end(19);
-        CHECK.due("2: behind what was left", x.feed(0x0A0B0C0D, 0, 0, 0, 0), 39);
-        x.end(0);
-        for (int i = 1; i <= 100; i++) {
-            CHECK.due("2: feed " + i, x.feed(i, i, i, i, i), 20 * i);
+        CASES.answers("2 twenty bytes on an empty TAPE", Cases.NEW,
+            x -> new long[] {x.feed(1, 2, 3, 4, 5), x.told(7)}, 20, 20);
+        CASES.answers("2 each number's highest byte first", TapeTest::fed, Rows::tapeOf,
+            1, 2, 3, 4, 5, 6, 7, 8, 9, 10, 11, 12, 13, 14, 15, 16, 17, 18, 19, 20);
+        CASES.answers("2 numbers below 0, and the largest", x -> x.feed(-1, LOWEST, -2, HIGHEST, 0x80FF7F00), Rows::tapeOf,
+            255, 255, 255, 255, 128, 0, 0, 0, 255, 255, 255, 254, 127, 255, 255, 255, 128, 255, 127, 0);
+        CASES.answers("2 behind what THE TAPE has", x -> {
+            fed(x);
+            x.end(11);
+            fed(x);
+        }, Rows::tapeOf, 1, 2, 3, 4, 5, 6, 7, 8, 9, 10, 11,
+            1, 2, 3, 4, 5, 6, 7, 8, 9, 10, 11, 12, 13, 14, 15, 16, 17, 18, 19, 20);
+    }
+
+    private static void fedTo(Counted x, int n) {
+        for (int i = 0; i < n; i += 20) {
+            fed(x);
         }
-        CHECK.due("2: no room", x.feed(1, 1, 1, 1, 1), ZSaves.FULL);
-        x.end(1981);
-        CHECK.due("2: one too many", x.feed(1, 1, 1, 1, 1), ZSaves.FULL);
-        CHECK.due("2: nothing changed", x.told(7), 1981);
-        x.end(1980);
-        CHECK.due("2: the last twenty", x.feed(1, 1, 1, 1, 1), 2000);
+        x.end(n);
+    }
+
+    private static void feedAtItsEdges() {
+        CASES.answers("2 the last twenty that have room", x -> fedTo(x, 1980),
+            x -> new long[] {x.feed(1, 2, 3, 4, 5), x.told(7)}, 2000, 2000);
+        CASES.answers("2 room for more than twenty", x -> fedTo(x, 1979), x -> new long[] {x.feed(1, 2, 3, 4, 5)}, 1999);
+        CASES.refused("2 FULL: room for nineteen", x -> fedTo(x, 1981), x -> x.feed(1, 2, 3, 4, 5), FULL);
+        CASES.refused("2 FULL: room for one", x -> fedTo(x, 1999), x -> x.feed(1, 2, 3, 4, 5), FULL);
+        CASES.refused("2 FULL: no room", x -> fedTo(x, 2000), x -> x.feed(1, 2, 3, 4, 5), FULL);
+        CASES.answers("2 room again, when bytes went", x -> fedTo(x, 2000),
+            x -> new long[] {x.end(1980), x.feed(1, 2, 3, 4, 5)}, 20, 2000);
     }
 
     private static void end() {
-        ZSaves x = new ZSaves();
-        CHECK.due("3: of nothing", x.end(0), 0);
-        CHECK.due("3: more than there are", x.end(1), ZSaves.BAD);
-        x.feed(1, 2, 3, 4, 5);
-        CHECK.due("3: below 0", x.end(-1), ZSaves.BAD);
-        CHECK.due("3: above", x.end(21), ZSaves.BAD);
-        CHECK.due("3: all", x.end(20), 0);
-        CHECK.due("3: some", x.end(13), 7);
-        CHECK.due("3: told", x.told(7), 13);
-        CHECK.due("3: none", x.end(0), 13);
+        CASES.answers("3 the first ones stay", TapeTest::fed, x -> {
+            x.end(12);
+            return Rows.tapeOf(x);
+        }, 1, 2, 3, 4, 5, 6, 7, 8, 9, 10, 11, 12);
+        CASES.answers("3 all stay", TapeTest::fed, x -> new long[] {x.end(20), x.told(7)}, 0, 20);
+        CASES.answers("3 one goes", TapeTest::fed, x -> new long[] {x.end(19), x.told(7)}, 1, 19);
+        CASES.answers("3 one stays", TapeTest::fed, x -> new long[] {x.end(1), x.told(7)}, 19, 1);
+        CASES.answers("3 none stays", TapeTest::fed, x -> new long[] {x.end(0), x.told(7)}, 20, 0);
+        CASES.answers("3 none of an empty TAPE", Cases.NEW, x -> new long[] {x.end(0)}, 0);
+        CASES.answers("3 none of a full TAPE", x -> fedTo(x, 2000), x -> new long[] {x.end(0), x.told(7)}, 2000, 0);
+        CASES.answers("3 what went does not come back", TapeTest::fed,
+            x -> new long[] {x.end(5), x.end(6), x.told(7)}, 15, BAD, 5);
     }
 
-    private static void outAndBack() {
-        ZSaves x = Rows.withStory(9);
-        int n = x.save(true);
-        int[] due = Rows.file(Rows.headChunk(0), Rows.chunk(Rows.C, 9), Rows.framesChunk());
-        CHECK.due("4: how many", n, due.length);
-        for (int i = 0; i < due.length; i++) {
-            CHECK.due("4: out(" + i + ")", x.out(i), due[i]);
-        }
-        CHECK.due("4: below", x.out(-1), ZSaves.BAD);
-        CHECK.due("4: behind", x.out(n), ZSaves.BAD);
-        x.feed(1, 1, 1, 1, 1);
-        CHECK.due("5: back", x.back(), n);
-        CHECK.due("5: the tape", x.told(7), n);
-        CHECK.due("5: the out stays", x.told(8), n);
-        CHECK.due("5: it can be read", x.restore(), 1);
-        CHECK.due("5: and again", x.back(), n);
+    private static void endRefused() {
+        CASES.refused("3 BAD: one below 0", Cases::rich, x -> x.end(-1), BAD);
+        CASES.refused("3 BAD: NONE", Cases::rich, x -> x.end(NONE), BAD);
+        CASES.refused("3 BAD: the lowest number", Cases::rich, x -> x.end(LOWEST), BAD);
+        CASES.refused("3 BAD: one more than there are", Cases::rich, x -> x.end(21), BAD);
+        CASES.refused("3 BAD: the highest number", Cases::rich, x -> x.end(HIGHEST), BAD);
+        CASES.refused("3 BAD: one of an empty TAPE", Cases.NEW, x -> x.end(1), BAD);
+        CASES.refused("3 BAD: 2,001 of a full TAPE", x -> fedTo(x, 2000), x -> x.end(2001), BAD);
     }
 
-    private static void backOfTooMuch() {
-        ZSaves x = Rows.withStory(Rows.zeros(1000));
+    /** A FILE of 60 bytes, the first one a 70, the last one a 0. */
+    private static void saved(Counted x) {
+        Rows.story(x, 9, 8);
         x.save(true);
-        CHECK.due("5: 1,000 bytes and a frame", x.back(), 12 + 22 + 1008 + 16);
-        fill(x, 471);
-        CHECK.due("17: just 2,000", x.save(true), 2000);
-        CHECK.due("5: just 2,000", x.back(), 2000);
-        x.push(1);
-        CHECK.due("17: above 2,000", x.save(true), 2002);
-        CHECK.due("5: above 2,000", x.back(), ZSaves.FULL);
-        CHECK.due("5: nothing changed", x.told(7), 2000);
-        CHECK.due("5: nor the out", x.told(8), 2002);
     }
 
-    /** So many times two bytes more in D: a FRAME is worth four WORDS. */
-    private static void fill(ZSaves x, int words) {
-        int left = words;
-        while (left > 0) {
-            if (x.push(1) == ZSaves.FULL) {
-                x.call(0, 0, 0, 0);
-                left -= 4;
-            } else {
-                left--;
-            }
-        }
+    private static void out() {
+        CASES.saved("4 each byte", x -> Rows.story(x, 9, 8), true,
+            Rows.file(Rows.headChunk(0), Rows.chunk(Rows.C, 9, 8), Rows.framesChunk()));
+        CASES.answers("4 the first and the last byte", TapeTest::saved, x -> new long[] {x.out(0), x.out(59)}, 70, 0);
+        CASES.answers("4 a byte above 127", x -> {
+            Rows.story(x, 255, 128);
+            x.save(true);
+        }, x -> new long[] {x.out(42), x.out(43)}, 255, 128);
+        CASES.answers("4 of the latest save()", x -> {
+            saved(x);
+            x.push(1);
+            x.save(true);
+            x.pop();
+            x.save(true);
+        }, x -> new long[] {x.out(59), x.out(60), x.out(61)}, 0, BAD, BAD);
+        CASES.refused("4 BAD: below 0", TapeTest::saved, x -> x.out(-1), BAD);
+        CASES.refused("4 BAD: behind the last", TapeTest::saved, x -> x.out(60), BAD);
+        CASES.refused("4 BAD: the lowest number", TapeTest::saved, x -> x.out(LOWEST), BAD);
+        CASES.refused("4 BAD: the highest number", TapeTest::saved, x -> x.out(HIGHEST), BAD);
+        CASES.refused("4 BAD: of an empty OUT", Cases.NEW, x -> x.out(0), BAD);
+    }
+
+    private static void savedOf2000(Counted x) {
+        Rows.story(x, 9);
+        Rows.onTape(x, Rows.fileOf2000());
+        x.restore();
+    }
+
+    private static void back() {
+        CASES.answers("5 THE OUT stays", TapeTest::saved,
+            x -> new long[] {x.back(), x.told(7), x.told(8), x.back()}, 60, 60, 60, 60);
+        CASES.answers("5 it is THE TAPE, not behind it", TapeTest::saved, x -> {
+            fed(x);
+            x.back();
+            return Rows.tapeOf(x);
+        }, Rows.longs(Rows.file(Rows.headChunk(0), Rows.chunk(Rows.C, 9, 8), Rows.framesChunk())));
+        CASES.answers("5 an empty OUT empties THE TAPE", TapeTest::fed, x -> new long[] {x.back(), x.told(7)}, 0, 0);
+        CASES.answers("5 a full TAPE makes room for it", x -> {
+            saved(x);
+            fedTo(x, 2000);
+        }, x -> new long[] {x.back(), x.told(7)}, 60, 60);
+        CASES.answers("5 just 2,000 bytes", TapeTest::savedOf2000,
+            x -> new long[] {x.save(false), x.back(), x.told(7), x.restore()}, 2000, 2000, 2000, 1);
+        CASES.refused("5 FULL: 2,002 bytes", x -> {
+            savedOf2000(x);
+            x.push(1);
+            x.save(false);
+            fed(x);
+        }, Counted::back, FULL);
     }
 
     private static void story() {
-        ZSaves x = new ZSaves();
-        Rows.onTape(x, Rows.join(Rows.HEAD, Rows.row(21, 22, 23)));
-        CHECK.due("6: story", x.story(), 3);
-        CHECK.due("6: the tape is empty", x.told(7), 0);
-        CHECK.due("6: memory", x.told(0), 3);
-        CHECK.due("6: its first byte", x.peek(0), 21);
-        CHECK.due("6: its last byte", x.peek(2), 23);
-        CHECK.due("6: pc", x.told(1), 0);
-        CHECK.due("6: frames", x.told(2), 1);
-        for (int what = 0; what <= 4; what++) {
-            CHECK.due("6: frame(0, " + what + ")", x.frame(0, what), 0);
-        }
-        CHECK.due("6: no word", x.frame(0, 10), ZSaves.NONE);
+        CASES.answers("6 a HEAD, and its bytes", x -> Rows.onTape(x, Rows.join(Rows.HEAD, Rows.row(21, 0, 255))),
+            x -> new long[] {x.story(), x.peek(0), x.peek(1), x.peek(2), x.told(0)}, 3, 21, 0, 255, 3);
+        CASES.saved("6 the HEAD is the STORY's", x -> {
+            Rows.onTape(x, 255, 254, 253, 252, 251, 250, 249, 248, 247, 246, 9);
+            x.story();
+        }, false, Rows.file(Rows.chunk(Rows.A, 255, 254, 253, 252, 251, 250, 249, 248, 247, 246, 0, 0, 0),
+            Rows.chunk(Rows.B), Rows.framesChunk()));
+        CASES.answers("6 THE TAPE is empty behind it", TapeTest::fed, x -> new long[] {x.story(), x.told(7)}, 10, 0);
+        CASES.answers("1 a SESSION BEGINS: PC 0, one FRAME", x -> Rows.story(x, 9),
+            x -> new long[] {x.told(1), x.told(2)}, 0, 1);
+        CASES.answers("1 a SESSION BEGINS: the first FRAME", x -> Rows.story(x, 9), x -> new long[] {
+            x.frame(0, 0), x.frame(0, 1), x.frame(0, 2), x.frame(0, 3), x.frame(0, 4), x.frame(0, 10)}, 0, 0, 0, 0, 0, NONE);
     }
 
-    private static void storyOfEdges() {
-        ZSaves x = new ZSaves();
-        CHECK.due("6: of nothing", x.story(), ZSaves.BAD);
-        Rows.onTape(x, Rows.HEAD);
-        CHECK.due("6: a head alone", x.story(), ZSaves.BAD);
-        CHECK.due("6: the tape is empty though refused", x.told(7), 0);
-        CHECK.due("6: still none", x.peek(0), ZSaves.STATE);
-        Rows.onTape(x, Rows.zeros(11));
-        CHECK.due("6: one byte", x.story(), 1);
-        Rows.onTape(x, Rows.filled(1010, 5));
-        CHECK.due("6: 1,000 bytes", x.story(), 1000);
-        Rows.onTape(x, Rows.filled(1011, 6));
-        CHECK.due("6: 1,001 bytes", x.story(), ZSaves.BAD);
-        CHECK.due("6: the one before stays", x.peek(999), 5);
-        CHECK.due("6: the tape is empty", x.told(7), 0);
+    private static void storyAtItsEdges() {
+        CASES.answers("6 the smallest: 11 bytes", x -> fedTo(x, 11), x -> new long[] {x.story(), x.told(0), x.peek(0)}, 1, 1, 11);
+        CASES.answers("6 the largest: 1,010 bytes", x -> fedTo(x, 1010),
+            x -> new long[] {x.story(), x.told(0), x.peek(999), x.peek(1000)}, 1000, 1000, 10, BAD);
+        CASES.refusedReading("6 BAD: an empty TAPE", Cases.NEW, Counted::story, BAD);
+        CASES.refusedReading("6 BAD: one byte", x -> fedTo(x, 1), Counted::story, BAD);
+        CASES.refusedReading("6 BAD: a HEAD alone, 10 bytes", x -> fedTo(x, 10), Counted::story, BAD);
+        CASES.refusedReading("6 BAD: 1,011 bytes", x -> fedTo(x, 1011), Counted::story, BAD);
+        CASES.refusedReading("6 BAD: 2,000 bytes", x -> fedTo(x, 2000), Counted::story, BAD);
+        CASES.refusedReading("6 BAD: a HEAD alone, the STORY before stays", x -> {
+            Cases.rich(x);
+            x.end(10);
+        }, Counted::story, BAD);
+        CASES.refusedReading("6 BAD: 1,011 bytes, the STORY before stays", x -> {
+            Cases.rich(x);
+            x.end(0);
+            fedTo(x, 1011);
+        }, Counted::story, BAD);
     }
 
+    /** A STORY behind a STORY: what goes, and what no sentence takes away. */
     private static void storyAgain() {
-        ZSaves x = Rows.withStory(Rows.filled(20, 255));
-        Rows.onTape(x, Rows.file(Rows.headChunk(77), Rows.chunk(Rows.B), Rows.framesChunk(), Rows.chunk(Rows.row(1, 2, 3, 4), 5)));
-        CHECK.due("6: a file with a stranger", x.restore(), 1);
-        x.keep();
-        x.call(5, 6, 7, 8);
-        int out = x.save(false);
-        x.write();
-        x.cut(3);
-        x.bound(500);
-        Rows.onTape(x, Rows.first(Rows.HEAD, 12));
-        x.restore();
-        Rows.onTape(x, Rows.join(Rows.HEAD, Rows.zeros(18)));
-        CHECK.due("6: another story", x.story(), 18);
-        CHECK.due("6: its own bits", x.peek(17), 0);
-        int[] due = {18, 0, 1, 0, 0, 8, 0, 0, out, out};
-        for (int what = 0; what < due.length; what++) {
-            CHECK.due("6: told(" + what + ")", x.told(what), due[what]);
-        }
-        CHECK.due("6: undo", x.undo(), ZSaves.NONE);
-        CHECK.due("6: the bound stays", x.bound(500), 500);
-        CHECK.due("6: why stays", x.why(0), 2);
-        CHECK.due("6: the chunks of the latest save stay", x.chunk(3, 0), 0x01020304);
-        CHECK.due("6: the cut stays", x.write(), 0);
+        CASES.answers("6 a SESSION BEGINS again", Cases::rich,
+            x -> new long[] {x.story(), x.told(0), x.told(1), x.told(2), x.frame(0, 4)}, 10, 10, 0, 1, 0);
+        CASES.answers("6 no STRANGERS any more", Cases::rich,
+            x -> new long[] {x.told(6), x.story(), x.told(6), x.save(false)}, 2, 10, 0, 58);
+        CASES.answers("6 nothing is KEPT any more", Cases::rich,
+            x -> new long[] {x.told(3), x.story(), x.told(3), x.told(4), x.undo()}, 2, 10, 0, 0, NONE);
+        CASES.answers("6 THE BITS are its own", x -> Rows.story(x, Rows.filled(18, 3)),
+            x -> new long[] {Rows.story(x, Rows.zeros(18)), x.peek(17)}, 18, 0);
+        CASES.answers("6 a larger one behind a smaller one", x -> Rows.story(x, 9),
+            x -> new long[] {Rows.story(x, 1, 2, 3), x.peek(1), x.peek(2), x.peek(3)}, 3, 2, 3, BAD);
+        CASES.answers("6 a smaller one behind a larger one", x -> Rows.story(x, 1, 2, 3),
+            x -> new long[] {Rows.story(x, 9), x.peek(0), x.peek(1), x.restart(), x.peek(1)}, 1, 9, BAD, 1, BAD);
+        CASES.answers("6 THE BOUND stays", Cases::rich, x -> new long[] {x.story(), x.bound(5)}, 10, 900);
+        CASES.answers("6 why() stays", Cases::rich, x -> new long[] {x.story(), x.why(0), x.why(1)}, 10, 1, 0);
+        CASES.answers("6 THE OUT and its CHUNKS stay", Cases::rich,
+            x -> new long[] {x.told(8), x.story(), x.told(8), x.chunk(4, 2)}, 120, 10, 120, 2);
+        CASES.answers("6 the disk and a cut stay", Cases::rich,
+            x -> new long[] {x.told(9), x.story(), x.told(9), x.write(), x.write()}, 104, 10, 104, 0, 1);
+    }
+
+    private static void lastCall() {
+        CASES.answers("1 the 512th call answers as the first", x -> {
+            Rows.story(x, 9);
+            int v = 0;
+            while (x.left() > 1) {
+                x.poke(0, v & 255);
+                v++;
+            }
+        }, x -> new long[] {x.peek(0), x.left()}, 250, 0);
     }
 }
