@@ -134,6 +134,13 @@ public final class DiskTest {
             x.load();
             return Rows.tapeOf(x);
         }, Rows.longs(Rows.file(Rows.headChunk(0), Rows.chunk(Rows.C, 9, 8), Rows.framesChunk())));
+        CASES.answers("23 what becomes of THE TAPE does not become of THE FILE", DiskTest::written, x -> {
+            x.load();
+            x.end(20);
+            x.feed(1, 2, 3, 4, 5);
+            x.load();
+            return Rows.tapeOf(x);
+        }, Rows.longs(Rows.file(Rows.headChunk(0), Rows.chunk(Rows.C, 9, 8), Rows.framesChunk())));
         CASES.answers("23 THE OUT stays", DiskTest::written, x -> new long[] {x.load(), x.told(8)}, 60, 62);
         CASES.answers("23 a FILE of no bytes empties THE TAPE", x -> {
             x.write();

@@ -10,8 +10,10 @@ public final class KeptTest {
         weight();
         weightAtItsEdges();
         eldestGo();
+        whoStaysIsWhole();
         keepFull();
         largestBound();
+        heaviest();
         undo();
         undoAtItsEdges();
         undoRefused();
@@ -180,6 +182,49 @@ public final class KeptTest {
         }, x -> new long[] {x.told(3), x.told(4)}, 8, 64);
     }
 
+    /** Ten SESSIONS, the B of each a byte longer than that of the one before, are KEPT: their prints. */
+    private static long[] keptEachHeavier(Counted x) {
+        Rows.story(x, Rows.zeros(10));
+        long[] prints = new long[10];
+        for (int i = 0; i < 10; i++) {
+            x.poke(i, 7 + i);
+            x.push(i);
+            prints[i] = x.print();
+            x.keep();
+        }
+        x.restart();
+        return prints;
+    }
+
+    /** 0 for each SESSION that comes back with the print that it had, the latest first, and NONE behind the eldest. */
+    private static long[] comeBack(Counted x, long[] prints) {
+        long[] all = new long[x.told(3) + 1];
+        for (int i = 0; i < all.length; i++) {
+            all[i] = x.undo() == NONE ? NONE : x.print() - prints[prints.length - 1 - i];
+        }
+        return all;
+    }
+
+    /** Each weighs otherwise, so one that took the place of an elder one without all that is its own would differ. */
+    private static void whoStaysIsWhole() {
+        CASES.answers("4 those that stay are whole, when the eldest were too many", Cases.NEW,
+            x -> comeBack(x, keptEachHeavier(x)), 0, 0, 0, 0, 0, 0, 0, 0, NONE);
+        CASES.answers("4 those that stay are whole, when the eldest were too heavy", x -> x.bound(100),
+            x -> comeBack(x, keptEachHeavier(x)), 0, 0, NONE);
+        CASES.answers("26 those that stay are whole, when THE BOUND falls", Cases.NEW, x -> {
+            long[] prints = keptEachHeavier(x);
+            x.bound(150);
+            return comeBack(x, prints);
+        }, 0, 0, 0, 0, NONE);
+        CASES.answers("26 those that stay are whole, when THE BOUND falls one by one", Cases.NEW, x -> {
+            long[] prints = keptEachHeavier(x);
+            for (int n = 230; n >= 150; n--) {
+                x.bound(n);
+            }
+            return comeBack(x, prints);
+        }, 0, 0, 0, 0, NONE);
+    }
+
     private static void keepFull() {
         CASES.answers("24 alone just THE BOUND", x -> {
             light(x);
@@ -225,10 +270,7 @@ public final class KeptTest {
     }
 
     private static void largestBound() {
-        int[] memory = Rows.zeros(1000);
-        for (int i = 1; i < 1000; i += 2) {
-            memory[i] = 252;
-        }
+        int[] memory = Rows.everySecond(252);
         Cases.Steps longest = x -> {
             Rows.story(x, Rows.zeros(1000));
             Rows.restored(x, Rows.headChunk(0), Rows.chunk(Rows.C, memory), Rows.framesChunk());
@@ -268,6 +310,31 @@ public final class KeptTest {
             }
             return pcs;
         }, 7, 6, 5, 4, 3, 2, 1, 0, NONE);
+    }
+
+    private static void heaviest() {
+        CASES.answers("28 the longest B beside a long D", Rows::heaviest,
+            x -> new long[] {x.told(2), x.told(5)}, 20, Rows.HEAVIEST);
+        CASES.answers("24 FULL: the longest B beside a long D, one more than THE BOUND", x -> {
+            Rows.heaviest(x);
+            x.bound(Rows.HEAVIEST - 1);
+        }, x -> {
+            long print = x.print();
+            return new long[] {x.keep(), x.told(3), x.told(4), x.told(5), x.print() - print};
+        }, FULL, 0, 0, Rows.HEAVIEST, 0);
+        CASES.answers("24 the longest B beside a long D, just THE BOUND", x -> {
+            Rows.heaviest(x);
+            x.bound(Rows.HEAVIEST);
+        }, x -> new long[] {x.keep(), x.told(4), x.keep(), x.told(4)}, 1, Rows.HEAVIEST, 1, Rows.HEAVIEST);
+        CASES.answers("26 the longest B beside a long D, as often as 10,000 has room", Rows::heaviest,
+            x -> new long[] {x.bound(10000), x.keep(), x.keep(), x.keep(), x.told(4)}, 1000, 1, 2, 2, 2 * Rows.HEAVIEST);
+        CASES.answers("25 the longest B beside a long D comes back", Rows::heaviest, x -> {
+            long print = x.print();
+            x.bound(10000);
+            x.keep();
+            x.restart();
+            return new long[] {x.undo(), x.print() - print};
+        }, 0, 0);
     }
 
     private static void undo() {

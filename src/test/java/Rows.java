@@ -10,6 +10,9 @@ final class Rows {
     static final int[] IFZS = {73, 70, 90, 83};
     static final int[] HEAD = {1, 2, 3, 4, 5, 6, 7, 8, 9, 10};
 
+    /** What the SESSION of heaviest weighs: its B, then its D. */
+    static final int HEAVIEST = 1500 + 2010;
+
     private Rows() {
     }
 
@@ -81,6 +84,46 @@ final class Rows {
         int[] stranger = chunk(row(1, 2, 3, 4), filled(200, 6));
         int[] strangers = join(stranger, stranger, stranger, stranger, stranger, stranger, stranger, stranger);
         return file(headChunk(7), chunk(B), chunk(D, frames), strangers);
+    }
+
+    /** A thousand bytes, every second of them other than 0. */
+    static int[] everySecond(int v) {
+        int[] row = zeros(1000);
+        for (int i = 1; i < 1000; i += 2) {
+            row[i] = v;
+        }
+        return row;
+    }
+
+    private static int[] fullFrames(int n) {
+        int[] all = {};
+        for (int i = 0; i < n; i++) {
+            all = join(all, row(0, 0, 0, 15, 7, 127, 0, 40), zeros(30), filled(80, 255));
+        }
+        return all;
+    }
+
+    private static int[] firstFullFrame() {
+        return join(row(0, 0, 0, 0, 0, 0, 0, 40), filled(80, 255));
+    }
+
+    /** The D of the SESSION of heaviest. */
+    static int[] heaviestFrames() {
+        int[] last = join(row(0, 0, 0, 15, 7, 127, 0, 0), zeros(30));
+        return join(firstFullFrame(), fullFrames(15), last, last, last, last);
+    }
+
+    /** As heavy a SESSION as 512 calls can make and still ask some twenty times: the longest B, and twenty FRAMES. */
+    static void heaviest(Counted x) {
+        story(x, zeros(1000));
+        // THE BITS stay 0 when it is restored: in 252 they are 0 already.
+        restored(x, headChunk(0), chunk(C, everySecond(252)), chunk(D, join(firstFullFrame(), fullFrames(7))));
+        for (int i = 8; i < 20; i++) {
+            x.call(0, 7, 7, 15);
+            for (int k = 0; k < 40 && i < 16; k++) {
+                x.push(65535);
+            }
+        }
     }
 
     static void onTape(Counted x, int... bytes) {

@@ -1,6 +1,6 @@
 /** Promises 17 and 20: what a FILE is when it is SAVED, and its CHUNKS. */
 public final class SaveTest {
-    private static final int BAD = ZSaves.BAD, NONE = ZSaves.NONE;
+    private static final int BAD = ZSaves.BAD, NONE = ZSaves.NONE, FULL = ZSaves.FULL;
     private static final int LOWEST = Integer.MIN_VALUE, HIGHEST = Integer.MAX_VALUE;
     private static final int[] NAME = {1, 2, 3, 4};
     private static final Cases CASES = new Cases();
@@ -12,6 +12,7 @@ public final class SaveTest {
         memoryAsItIs();
         frames();
         framesAtTheirEdges();
+        heaviest();
         strangers();
         strangersAtTheirEdges();
         saveChangesTheOutAlone();
@@ -180,6 +181,24 @@ public final class SaveTest {
         }, false, fileOfFrames(0, Rows.join(sixteen, full, full, full, full)));
     }
 
+    /** The FILES of the heaviest SESSION have places above 255 and 2,000, and more bytes than THE TAPE takes. */
+    private static void heaviest() {
+        int[] runs = Rows.zeros(1500);
+        for (int i = 2; i < 1500; i += 3) {
+            runs[i] = 252;
+        }
+        CASES.saved("17 the longest B beside a long D", Rows::heaviest, false,
+            Rows.file(Rows.headChunk(0), Rows.chunk(Rows.B, runs), Rows.chunk(Rows.D, Rows.heaviestFrames())));
+        CASES.saved("17 the longest C beside a long D", Rows::heaviest, true,
+            Rows.file(Rows.headChunk(0), Rows.chunk(Rows.C, Rows.everySecond(252)), Rows.chunk(Rows.D, Rows.heaviestFrames())));
+        CASES.answers("20 the longest B beside a long D", Rows::heaviest,
+            x -> new long[] {x.save(false), x.chunk(1, 1), x.chunk(1, 2), x.chunk(2, 1), x.chunk(2, 2), x.chunk(3, 1)},
+            3560, 42, 1500, 1550, 2010, NONE);
+        CASES.answers("17 a FILE larger than THE TAPE is still THE OUT", Rows::heaviest,
+            x -> new long[] {x.save(false), x.back(), x.told(8), x.write(), x.load(), x.told(9), x.told(7)},
+            3560, FULL, 3560, 1, FULL, 3560, 0);
+    }
+
     private static Cases.Steps restored(int[]... strangers) {
         return x -> {
             Rows.story(x, 9);
@@ -203,6 +222,10 @@ public final class SaveTest {
             Rows.story(x, 9);
             Rows.restored(x, one, Rows.headChunk(5), two, Rows.framesChunk(), Rows.chunk(Rows.B), three);
         }, true, Rows.file(Rows.headChunk(5), Rows.chunk(Rows.C, 9), Rows.framesChunk(), one, two, three));
+        CASES.saved("17 STRANGERS: whatever comes on THE TAPE behind them", x -> {
+            restored(one, two, three).on(x);
+            Rows.onTape(x, Rows.filled(120, 99));
+        }, false, Rows.file(Rows.headChunk(5), Rows.chunk(Rows.B), Rows.framesChunk(), one, two, three));
         CASES.saved("17 STRANGERS: those of the FILE restored latest alone", x -> {
             restored(one, two, three).on(x);
             Rows.restored(x, Rows.headChunk(5), Rows.chunk(Rows.B), Rows.framesChunk(), two);

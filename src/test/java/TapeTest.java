@@ -6,6 +6,7 @@ public final class TapeTest {
 
     public static void main(String[] args) {
         newObject();
+        twoObjects();
         withoutStory();
         stateAheadOfAll();
         feed();
@@ -30,6 +31,14 @@ public final class TapeTest {
         CASES.answers("1 an empty OUT", Cases.NEW, x -> new long[] {x.told(8)}, 0);
         CASES.answers("28 no PC and no weight without a STORY", Cases.NEW, x -> new long[] {x.told(1), x.told(5)}, 0, 0);
         CASES.answers("19 no fault ahead of the first restore()", Cases.NEW, x -> new long[] {x.why(0), x.why(1)}, 0, NONE);
+    }
+
+    private static void twoObjects() {
+        CASES.answers("1 a new object knows nothing of another one", Cases::rich, x -> {
+            Counted other = new Counted();
+            return new long[] {other.told(0), other.told(3), other.told(6), other.told(7), other.told(8), other.told(9),
+                other.why(0), other.chunk(0, 0), other.bound(5), x.told(3), x.bound(6)};
+        }, 0, 0, 0, 0, 0, NONE, 0, NONE, 1000, 2, 900);
     }
 
     /** On the disk, for the next write(), for THE BOUND and on THE TAPE there is something to lose. */
@@ -181,6 +190,19 @@ public final class TapeTest {
             x.back();
             return Rows.tapeOf(x);
         }, Rows.longs(Rows.file(Rows.headChunk(0), Rows.chunk(Rows.C, 9, 8), Rows.framesChunk())));
+        CASES.answers("5 what becomes of THE TAPE does not become of THE OUT", TapeTest::saved, x -> {
+            x.back();
+            x.end(20);
+            fed(x);
+            return Rows.outOf(x, 0, 100);
+        }, Rows.longs(Rows.file(Rows.headChunk(0), Rows.chunk(Rows.C, 9, 8), Rows.framesChunk())));
+        CASES.answers("5 what becomes of THE OUT does not become of THE TAPE", TapeTest::saved, x -> {
+            x.back();
+            x.poke(0, 77);
+            x.jump(0x112233);
+            x.save(true);
+            return Rows.tapeOf(x);
+        }, Rows.longs(Rows.file(Rows.headChunk(0), Rows.chunk(Rows.C, 9, 8), Rows.framesChunk())));
         CASES.answers("5 an empty OUT empties THE TAPE", TapeTest::fed, x -> new long[] {x.back(), x.told(7)}, 0, 0);
         CASES.answers("5 a full TAPE makes room for it", x -> {
             saved(x);
@@ -205,6 +227,10 @@ public final class TapeTest {
         }, false, Rows.file(Rows.chunk(Rows.A, 255, 254, 253, 252, 251, 250, 249, 248, 247, 246, 0, 0, 0),
             Rows.chunk(Rows.B), Rows.framesChunk()));
         CASES.answers("6 THE TAPE is empty behind it", TapeTest::fed, x -> new long[] {x.story(), x.told(7)}, 10, 0);
+        CASES.answers("6 what comes on THE TAPE behind it is not the STORY's", x -> Rows.story(x, 9, 8), x -> {
+            Rows.onTape(x, Rows.filled(20, 99));
+            return new long[] {x.restart(), x.peek(0), x.peek(1), x.save(true), x.out(20), x.out(29)};
+        }, 1, 9, 8, 60, 1, 10);
         CASES.answers("1 a SESSION BEGINS: PC 0, one FRAME", x -> Rows.story(x, 9),
             x -> new long[] {x.told(1), x.told(2)}, 0, 1);
         CASES.answers("1 a SESSION BEGINS: the first FRAME", x -> Rows.story(x, 9), x -> new long[] {
