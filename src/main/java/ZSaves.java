@@ -676,8 +676,9 @@ public final class ZSaves {
         }
 
         void addFrame(int back, int result, int arguments, int locals) {
-            if (count >= 0 && count < frames.length) {
-                frames[count].begin(back, result, arguments, locals);
+            Frame next = count >= 0 && count < frames.length ? frames[count] : null;
+            if (next != null) {
+                next.begin(back, result, arguments, locals);
                 count++;
             }
         }
